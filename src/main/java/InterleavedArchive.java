@@ -49,6 +49,8 @@ public final class InterleavedArchive {
     private final Decoder decoder = new Decoder();
     private final char[] input = new char[MAX_INPUT];
     private final int[] lines = new int[MAX_LINES * LINE_NUMBERS];
+    /** How many symbols of each block a burst holds. */
+    private final int[] held = new int[MAX_BLOCKS];
     private int inputLength = 0;
     private int lineCount = 0;
     private int keptError = -1;
@@ -351,10 +353,9 @@ public final class InterleavedArchive {
         if (!state.hasFile(file)) {
             throw new IndexOutOfBoundsException("no such file");
         }
-        int limit = 0;
-        int area = state.areaSize(file);
-        for (int length = 1; length <= area && standsBursts(file, length); length++) {
-            limit = length;
+        int limit = state.areaSize(file);
+        for (int from = state.areaStart(file); from < state.areaEnd(file); from++) {
+            limit = standingFrom(file, from, limit);
         }
         return limit;
     }
@@ -648,28 +649,22 @@ public final class InterleavedArchive {
         return set;
     }
 
-    /** Returns whether each place in the area of so many cells holds at most the check symbols of each block. */
-    private boolean standsBursts(int file, int length) {
-        int start = state.areaStart(file);
-        for (int from = start; from + length <= state.areaEnd(file); from++) {
-            for (int block = 0; block < state.blocks[file]; block++) {
-                if (symbolsWithin(file, block, from, length) > state.checks[file]) {
-                    return false;
-                }
+    /**
+     * Returns how long, up to a limit, bursts of erasures can be so that none from a cell on holds too many symbols of
+     * a block. One that meets the end of the area first sets no limit, since a longer one has no place there.
+     */
+    private int standingFrom(int file, int from, int limit) {
+        for (int block = 0; block < MAX_BLOCKS; block++) {
+            held[block] = 0;
+        }
+        for (int length = 0; length < limit && from + length < state.areaEnd(file); length++) {
+            int block = state.placeInFile(file, from + length) / BLOCK_CODE;
+            held[block]++;
+            if (held[block] > state.checks[file]) {
+                return length;
             }
         }
-        return true;
-    }
-
-    private int symbolsWithin(int file, int block, int from, int length) {
-        int count = 0;
-        for (int position = 0; position < state.blockSize(file); position++) {
-            int cell = state.cellAt(file, block, position);
-            if (cell >= from && cell < from + length) {
-                count++;
-            }
-        }
-        return count;
+        return limit;
     }
 
     // ---- scrubbing inside
