@@ -331,6 +331,14 @@ public final class PromisesTest {
         due("blocks of 8", x.file(3, 4), 1);
         put(x, "1*1:000000000");
         due("blocks of 9", x.file(4, 4), 2);
+        x.clear();
+        put(x, "1*1:ffffffffffffffffffffffffffffffff");
+        due("seal", x.file(0, 3), 121);
+        put(x, "1*1:12345678f");
+        due("seal without missing symbols", x.file(1, 3), 110);
+        due("missing symbol behind a longer text", x.symbol(x.cellOf(1, 1, 2)), 0);
+        x.clear();
+        put(x, "2*3:12");
         x.flip(2, 1);
         due("seal of damage", x.file(0, 3), 57);
         for (int what : new int[] {-1, 7, MIN, MAX}) {
@@ -1117,6 +1125,7 @@ public final class PromisesTest {
         dueThrown("undo what is forgotten", NONE, x::undo);
         due("files", x.files(), 1);
         undoKeepsOthers();
+        undoReplacedFile();
         undoAfterMany();
     }
 
@@ -1138,6 +1147,34 @@ public final class PromisesTest {
         due("undo the first", x.undo(), 0);
         due("files", x.files(), 0);
         due("symbol", x.symbol(0), 0);
+    }
+
+    private static void undoReplacedFile() {
+        InterleavedArchive x = with("1*1:1", "3*2:" + symbols(20));
+        x.remove(0);
+        x.save();
+        x.remove(1);
+        put(x, "1*4:" + symbols(32));
+        put(x, "6*3:5");
+        due("symbols of the new file", x.file(1, 0), 1);
+        x.undo();
+        x.undo();
+        due("undo remove", x.undo(), 3);
+        dueOldFile(x);
+        x.remove(1);
+        put(x, "6*3:5");
+        put(x, "6*3:5");
+        due("restore", x.restore(), 1);
+        dueOldFile(x);
+    }
+
+    private static void dueOldFile(InterleavedArchive x) {
+        int[] want = {20, 3, 2, x.file(1, 3), 3, 9, 33};
+        for (int what = 0; what <= 6; what++) {
+            due("file what " + what, x.file(1, what), want[what]);
+        }
+        due("condition by the old seal", x.condition(1), 0);
+        due("placeOf", x.placeOf(9 + 22), 200);
     }
 
     private static void undoAfterMany() {
