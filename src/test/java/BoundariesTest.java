@@ -13,7 +13,8 @@ import java.util.TreeMap;
 import java.util.TreeSet;
 
 /**
- * For each sentence of the document that names a boundary case a test of its own, with the promise and the sentence.
+ * For each sentence of the document that names a boundary case, and for each one of its description, a test of its own,
+ * with the promise and the sentence.
  *
  * <p>A test is a script, a call a line: "flip 0 15 = 13" or "flip 0 16 throws IllegalArgumentException"; a call without
  * an answer must only return. "type T" appends the characters of T, "put T" stores it as well, {n} is n symbols,
@@ -37,6 +38,11 @@ public final class BoundariesTest {
     private static final String FULL = "8 times put 2*1:{24} = 7\n";
     private static final String FIRST_THROWN =
             "If several exceptions apply, the one that is documented first is thrown.";
+
+    /** The words before the sentences of the description, which tell nothing. */
+    private static final Set<String> HEADS = Set.of("Symbols.", "Blocks.", "Files.", "Cells.", "Storing.", "Decoding.",
+            "Damage.", "Days and age.", "Scrubbing.", "Accounts.", "Report.", "Text.", "History.", "Exceptions.",
+            "More precisely.");
 
     private static final Set<String> CHANGING = Set.of("clear", "append", "store", "remove", "flip", "erase", "burst",
             "advance", "scrub", "repair", "undo", "save", "restore");
@@ -2896,6 +2902,257 @@ public final class BoundariesTest {
                 """);
     }
 
+    // ---- the description, sentence by sentence where no promise has it above
+
+    /** A product by 2, so many times, is a shift that is reduced by the number 19 where it leaves the four bits. */
+    private static int timesPowerOf2(int symbol, int exponent) {
+        int result = symbol;
+        for (int i = 0; i < exponent; i++) {
+            result = result < 8 ? result << 1 : result << 1 ^ 19;
+        }
+        return result;
+    }
+
+    private static void symbolsAndProducts() {
+        StringBuilder sums = new StringBuilder();
+        for (int a = 1; a <= 15; a++) {
+            sums.append("flip ").append(a).append(' ').append(a).append(" = ").append(a).append('\n');
+        }
+        for (int a = 0; a <= 15; a++) {
+            for (int b = 1; b <= 15; b++) {
+                sums.append("flip ").append(a).append(' ').append(b).append(" = ").append(a ^ b).append('\n');
+                sums.append("flip ").append(a).append(' ').append(b).append(" = ").append(a).append('\n');
+            }
+        }
+        sentence(15, "The sum of two symbols is their bitwise exclusive or.", sums.toString());
+        StringBuilder products = new StringBuilder();
+        for (int position = 0; position < 14; position++) {
+            products.append(position % 7 == 0 ? "new\nput 6*1:0 = 0\n" : "");
+            for (int symbol = 1; symbol <= 15; symbol++) {
+                String flip = "flip " + position + " " + symbol + "\n";
+                products.append(flip).append("sum 0 0 1 = ").append(timesPowerOf2(symbol, position)).append('\n');
+                products.append("sum 0 0 5 = ").append(timesPowerOf2(symbol, position * 5)).append('\n').append(flip);
+            }
+        }
+        sentence(20, "they are multiplied as polynomials whose coefficients are their bits, modulo 2, and the "
+                + "result is reduced modulo the polynomial with the bits 10011, that is, the number 19.",
+                products.toString());
+    }
+
+    private static void blocksAndFiles() {
+        StringBuilder choices = new StringBuilder("put 1*1:5 = 0\nput 2*1:5 = 1\n");
+        for (int d = 1; d <= 15; d++) {
+            choices.append("flip 0 ").append(d).append("\nsum 0 0 0 = ").append(d).append("\nflip 0 ").append(d);
+            choices.append("\nflip 9 ").append(d).append("\nflip 10 ").append(d).append("\nsum 1 0 0 = 0\n");
+            choices.append("sum 1 0 1 = ").append(d ^ timesPowerOf2(d, 1)).append("\nflip 9 ").append(d);
+            choices.append("\nflip 10 ").append(d).append('\n');
+        }
+        sentence(4, "For given data symbols, exactly one choice of the check symbols makes a block sound.",
+                choices.toString());
+        StringBuilder areas = new StringBuilder();
+        for (int r = 1; r <= 6; r++) {
+            for (int blocks = 1; blocks <= 4; blocks++) {
+                areas.append("put ").append(r).append("*3:{").append(8 * blocks).append("} = 0\nfile 0 6 = ");
+                areas.append(blocks * (8 + r)).append("\nroom = ").append(240 - blocks * (8 + r)).append("\nclear\n");
+                areas.append("put ").append(r).append("*3:{").append(8 * blocks - 7).append("} = 0\nfile 0 6 = ");
+                areas.append(blocks * (8 + r)).append("\nnew\n");
+            }
+        }
+        sentence(7, "A file has an area of cells that follow one another, as many as all symbols of its blocks",
+                areas.toString());
+        StringBuilder places = new StringBuilder();
+        for (int i = 0; i < 9; i++) {
+            for (int[] at : new int[][] {{0, 0, 2 * i}, {0, 1, 2 * i + 1}, {0, 2, 18 + i}, {1, 0, 27 + 3 * i},
+                    {1, 1, 28 + 3 * i}, {1, 2, 29 + 3 * i}, {1, 3, 54 + i}, {2, 0, 63 + 4 * i}, {2, 3, 66 + 4 * i},
+                    {3, 0, 99 + 3 * i}, {3, 2, 101 + 3 * i}, {4, 0, 126 + i}, {4, 1, 135 + i}}) {
+                places.append("cellOf ").append(at[0]).append(' ').append(at[1]).append(' ').append(i).append(" = ");
+                places.append(at[2]).append('\n');
+            }
+        }
+        String files = "put 1*2:{24} = 0\nput 1*3:{32} = 1\nput 1*4:{32} = 2\nput 1*4:{24} = 3\nput 1*1:{16} = 4\n";
+        sentence(9, "The cells of a group follow those of the group before; in a group of g blocks, the symbol at the "
+                + "position i of the block with the place q in the group, from 0, has the cell i * g + q of the group.",
+                files, places.toString());
+    }
+
+    private static void storingAndDecoding() {
+        sentence(4, "When a file is stored, its blocks are made sound, and all of its symbols are written to their "
+                + "cells.", """
+                burst 0 240 0
+                burst 0 240 15
+                put 2*2:123456789 = 0
+                sum 0 0 0 = 0
+                sum 0 0 1 = 0
+                sum 0 1 0 = 0
+                sum 0 1 1 = 0
+                found 0 0 2 = 1
+                found 0 0 9 = 8
+                found 0 1 2 = 9
+                found 0 1 3 = 0
+                found 0 1 9 = 0
+                symbol 4 = 1
+                symbol 5 = 9
+                symbol 18 = 8
+                symbol 19 = 0
+                symbol 20 = 15
+                erased 0 = 0
+                erased -1 = 220
+                wrong 0 = 0
+                wrong -1 = 220
+                account 7 = 20
+                """);
+        StringBuilder erasures = new StringBuilder("put 6*1:0 = 0\ndecoded 0 0 0 = 0\ndecoded 0 0 1 = 0\n");
+        for (int position = 0; position < 14; position++) {
+            erasures.append("erase ").append(position).append(" = 1\n");
+            erasures.append("decoded 0 0 0 = ").append(position + 1).append('\n');
+        }
+        sentence(21, "A block has erasures, the positions whose cells are erased, and perhaps errors. Let f be the "
+                + "number of erasures.", erasures.toString());
+        sentence(21, "There is at most one; e is the number of errors then.", """
+                put 2*1:0 = 0
+                flip 0 2
+                flip 1 3
+                decoded 0 0 1 = 1
+                decoded 0 0 2 = 4
+                found 0 0 0 = 2
+                found 0 0 1 = 3
+                found 0 0 2 = 1
+                wrong 0 = 2
+                repair 0 0 = 1
+                decoded 0 0 1 = 0
+                condition 0 = 2
+                """);
+        sentence(21, "If there is none, the block cannot be decoded.", """
+                put 1*1:5 = 0
+                put 2*1:5 = 1
+                flip 0 1
+                decoded 0 0 1 throws NoSuchElementException
+                undecodable 0 = 1
+                flip 9 7
+                decoded 1 0 1 = 1
+                flip 10 7
+                decoded 1 0 1 throws NoSuchElementException
+                undecodable 1 = 1
+                erase 9
+                decoded 1 0 1 throws NoSuchElementException
+                erase 10
+                decoded 1 0 1 = 0
+                """);
+        sentence(24, "it is true to its seal if the seal of the symbols that are found is its own.", """
+                put 1*1:024 = 0
+                put 1*1:100 = 1
+                file 0 3 = 182
+                file 1 3 = 182
+                flip 1 1
+                flip 2 2
+                flip 3 4
+                flip 0 7
+                read 0 0 = 1
+                read 0 1 = 0
+                read 0 2 = 0
+                condition 0 = 0
+                wrong 0 = 4
+                erase 1
+                condition 0 = 1
+                flip 3 1
+                condition 0 = 2
+                """);
+    }
+
+    private static void damageAndScrubbing() {
+        sentence(18, "Each cell keeps the symbol that was written last", """
+                put 1*1:f = 0
+                flip 1 15 = 0
+                wrong 0 = 1
+                flip 1 1 = 1
+                wrong 0 = 1
+                flip 1 14 = 15
+                wrong 0 = 0
+                remove 0
+                flip 1 15 = 0
+                wrong -1 = 1
+                put 1*1:0 = 0
+                wrong -1 = 0
+                flip 1 15 = 15
+                wrong 0 = 1
+                """);
+        sentence(29, "otherwise postponed.", """
+                put 3*1:5 = 0
+                flip 10 15
+                erase 0
+                advance 1
+                scrub 2 = 1
+                report 0 2 = 3
+                report 0 3 = 2
+                checked 0 0 = 0
+                scrub 3 = 0
+                report 0 2 = 1
+                checked 0 0 = 1
+                """);
+        sentence(7, "A method that throws an exception leaves the state unchanged, unless its documentation says "
+                + "otherwise.", """
+                put 2*1:5 = 0
+                burst 0 3 0
+                remove 1 throws IndexOutOfBoundsException
+                flip 240 1 throws IndexOutOfBoundsException
+                flip 0 16 throws IllegalArgumentException
+                erase 240 throws IndexOutOfBoundsException
+                burst 238 3 0 throws IllegalArgumentException
+                advance 101 throws IllegalArgumentException
+                scrub 201 throws IllegalArgumentException
+                repair 0 0 throws UnsupportedOperationException
+                store throws IllegalArgumentException
+                append 31 throws IllegalArgumentException
+                restore throws IllegalStateException
+                file 0 6 = 10
+                erased -1 = 3
+                wrong -1 = 0
+                day = 0
+                account 7 = 10
+                undo = 1
+                undo = 0
+                undo throws NoSuchElementException
+                """);
+        sentence(40, "Methods whose documentation does not mention a change only answer a question.", """
+                put 1*1:5 = 0
+                flip 1 2
+                """, questions(), questions(), "account 7 = 9\nundo = 1\nundo = 0\nfiles = 0\n");
+    }
+
+    /** Each question once; what they answer is told in other tests. */
+    private static String questions() {
+        return """
+                errorPosition throws NoSuchElementException
+                file 0 6 = 9
+                files = 1
+                cellOf 0 0 8 = 8
+                owner 8 = 0
+                placeOf 8 = 8
+                room = 231
+                symbol 1 = 7
+                isErased 1 = false
+                wrong 0 = 1
+                erased 0 = 0
+                sum 0 0 0 = 2
+                decoded 0 0 0 = 0
+                found 0 0 0 throws NoSuchElementException
+                read 0 0 throws NoSuchElementException
+                condition 0 = 3
+                undecodable 0 = 1
+                margin 0 0 throws NoSuchElementException
+                burstLimit 0 = 1
+                report 0 0 throws IndexOutOfBoundsException
+                reportLines = 0
+                checked 0 0 = 0
+                nextToCheck throws NoSuchElementException
+                needed = 0
+                account 0 = 0
+                day = 0
+                health = 8/9
+                describe 0 -1 throws IllegalStateException
+                """;
+    }
+
     // ---- the sentences of the document
 
     private static String plain(String text) {
@@ -2918,7 +3175,42 @@ public final class BoundariesTest {
         }
     }
 
-    /** Each sentence must stand in the document, and each of its lines that tells a limit must have a test. */
+    /** Returns the sentences of the description, each up to a full stop, colon or semicolon that ends it. */
+    private static List<String> sentencesOf(String description) {
+        List<String> sentences = new ArrayList<>();
+        for (String words : plain(description).split("(?<=[.:;]) ")) {
+            boolean isHead = words.endsWith(":") || HEADS.contains(words);
+            if (!isHead) {
+                sentences.add(words.substring(0, words.length() - 1));
+            }
+        }
+        return sentences;
+    }
+
+    private static boolean isQuoted(String words) {
+        for (List<String> quotes : QUOTES.values()) {
+            for (String one : quotes) {
+                if (one.contains(words) || words.contains(one.replaceAll("[.;]$", ""))) {
+                    return true;
+                }
+            }
+        }
+        return false;
+    }
+
+    private static void dueDescriptionTested(String head) {
+        int end = head.indexOf("The constructor and the methods follow");
+        for (String words : sentencesOf(head.substring(head.indexOf("## Description") + 14, end))) {
+            if (!isQuoted(words)) {
+                fault("no test for the description, \"" + words + "\"");
+            }
+        }
+    }
+
+    /**
+     * Each sentence must stand in the document, and each one of its description and each of its lines that tells a
+     * limit must have a test, at least for a part of it.
+     */
     private static void compareWithDocument() throws IOException {
         if (!Files.exists(DOCUMENT)) {
             System.out.println("no " + DOCUMENT + ": the sentences are not compared with it");
@@ -2936,6 +3228,8 @@ public final class BoundariesTest {
             }
             dueTested(number, section);
         }
+        quote = "the description";
+        dueDescriptionTested(sections[0]);
     }
 
     private static final Runnable[] PROMISES = {
@@ -2960,6 +3254,10 @@ public final class BoundariesTest {
                 fault("no test for promise " + (i + 1));
             }
         }
+        symbolsAndProducts();
+        blocksAndFiles();
+        storingAndDecoding();
+        damageAndScrubbing();
         compareWithDocument();
         Set<String> sentences = new TreeSet<>();
         QUOTES.forEach((number, words) -> words.forEach(text -> sentences.add(number + text)));
