@@ -799,6 +799,9 @@ public final class PromisesTest {
         due("wrong", x.wrong(0), 0);
         due("erased", x.erased(1), 3);
         due("condition", x.condition(0), 0);
+        due("reportLines", x.reportLines(), 2);
+        due("scrub with 0", x.scrub(0), 0);
+        due("reportLines behind it", x.reportLines(), 0);
         due("scrub again", x.scrub(9), 9);
         int[] accounts = {1, 1, 1, 0, 1, 0, 4, 30};
         for (int account = 0; account < 8; account++) {
@@ -952,7 +955,13 @@ public final class PromisesTest {
         due("symbol", y.symbol(2), 2 ^ 6);
         due("only the error that is not written is wrong", y.wrong(0), 1);
         due("condition", y.condition(0), 2);
-        due("undo counts a repair of nothing", with("1*1:1").repair(0, 0), 0);
+        InterleavedArchive z = with("1*1:1");
+        due("repair of nothing", z.repair(0, 0), 0);
+        due("undo of a repair of nothing", z.undo(), 1);
+        z.burst(0, 2, 0);
+        dueThrown("repair", UNSUPPORTED, () -> z.repair(0, 0));
+        due("undo behind a refused repair", z.undo(), 1);
+        due("erased", z.erased(0), 0);
     }
 
     private static void promise33() {
